@@ -402,6 +402,10 @@ public final class PromiseTest {
         same("explore: the order of finding", y.after(0, 0) * 10 + y.after(0, 1), 12);
         same("explore: an end alone", new TriggerAnalyzer().explore(), 1);
         same("explore: a circle", circle().explore(), 1);
+        TriggerAnalyzer u = explored(program(new int[][] {{1, 0, 0, 0}}));
+        u.change(0, true);
+        same("explore: meets again what an earlier exploration found", u.explore(), 2);
+        same("explore: numbers it anew", u.after(0, 0), 1);
         TriggerAnalyzer w = withRules(8);
         w.change(0, true);
         same("explore: all subsets", w.explore(), 256);
@@ -587,6 +591,11 @@ public final class PromiseTest {
         TriggerAnalyzer unused = circle();
         unused.put(0);
         yes("terminates: from this first situation", explored(unused).terminates());
+        TriggerAnalyzer twice = explored(circle());
+        twice.put(0);
+        yes("terminates: explored again", explored(twice).terminates());
+        same("longest: explored again", twice.longest(), 0);
+        same("ways: explored again", twice.ways(), 1);
     }
 
     private static void ends() {
@@ -672,6 +681,9 @@ public final class PromiseTest {
         y.rank(1, 2);
         y.explore();
         no("isPlayed: triggered, but never ready", y.isPlayed(2));
+        x.put(0);
+        x.explore();
+        no("isPlayed: not in the next exploration", x.isPlayed(0) || x.isPlayed(1) || x.isPlayed(3));
     }
 
     private static void choice() {
@@ -686,6 +698,9 @@ public final class PromiseTest {
         y.change(0, true);
         y.rank(0, 1);
         sameShare("choice: a third", explored(y).choice(), 2 / 6.0);
+        TriggerAnalyzer z = program(new int[][] {{1, 0, 0, 0, 1}, {1, 0, 0, 0, 1}}, 1);
+        same("choice: one situation", z.explore(), 1);
+        sameShare("choice: always", z.choice(), 1.0);
     }
 
     private static void canTrigger() {
@@ -693,6 +708,8 @@ public final class PromiseTest {
         same("canTrigger: 0", x.canTrigger(0), 14);
         same("canTrigger: no actions", x.canTrigger(1), 0);
         same("canTrigger: itself", x.canTrigger(4), 16);
+        TriggerAnalyzer y = program(new int[][] {{0, 0, 0}, {3, 0, 0}, {3, 0, 0, 5}});
+        same("canTrigger: no action about fact 0", y.canTrigger(1) + y.canTrigger(2), 0);
         x.turn(3, false);
         same("canTrigger: not one that is off", x.canTrigger(0), 6);
         x.turn(0, false);
