@@ -15,9 +15,9 @@ import java.util.regex.Pattern;
 public final class LanguageTest {
     private static final String[] RULED_OUT = {
         "\\bimport\\b", "\\bpackage\\b", "->", "::", "\\bfinally\\b", "\\bsynchronized\\b", "\\bassert\\b",
-        "\\bcatch\\b", "\\btry\\b", "\\bObject\\b", "\\bSystem\\.(?!arraycopy)", "\\bThread\\b", "Exact\\(",
-        "\\bvar\\b", "\\btransient\\b", "\\bvolatile\\b", "\\bnative\\b", "\\bstatic \\{", "\\bhashCode\\b",
-        "\\bequals\\b", "\\btoString\\b", "\\bwhile \\(true\\)", "for \\(;;\\)"};
+        "\\bObject\\b", "\\bSystem\\.(?!arraycopy)", "\\bThread\\b", "Exact\\(",
+        "\\bvar\\b", "\\btransient\\b", "\\bvolatile\\b", "\\bnative\\b", "\\bstatic \\{", "\\bint hashCode\\b",
+        "\\bboolean equals\\b", "\\bString toString\\b", "\\bwhile \\(true\\)", "for \\(;;\\)"};
     private static int wrong;
 
     public static void main(String[] args) throws IOException {

@@ -86,66 +86,6 @@ public final class PromiseTest {
         }
     }
 
-    /** Adds a rule whose event, and whose actions, are told as 2 times the fact, plus 1 if it is set. */
-    private static int rule(TriggerAnalyzer x, int event, int must, int mustNot, int... actions) {
-        int number = x.addRule(event / 2, event % 2 == 1, must, mustNot);
-        for (int action : actions) {
-            x.addAction(number, action / 2, action % 2 == 1);
-        }
-        return number;
-    }
-
-    private static TriggerAnalyzer withRules(int count) {
-        TriggerAnalyzer x = new TriggerAnalyzer();
-        for (int i = 0; i < count; i++) {
-            x.addRule(0, true, 0, 0);
-        }
-        return x;
-    }
-
-    private static TriggerAnalyzer program(int[][] rules, int... changes) {
-        TriggerAnalyzer x = new TriggerAnalyzer();
-        for (int[] row : rules) {
-            int[] actions = java.util.Arrays.copyOfRange(row, 3, row.length);
-            rule(x, row[0], row[1], row[2], actions);
-        }
-        for (int change : changes) {
-            x.change(change / 2, change % 2 == 1);
-        }
-        return x;
-    }
-
-    /** Setting fact 0 triggers 0 and 1; 0 sets 1 and thereby triggers 2, 1 unsets 1. */
-    private static TriggerAnalyzer diamond() {
-        return program(new int[][] {{1, 0, 0, 3}, {1, 0, 0, 2}, {3, 0, 0, 5}}, 1);
-    }
-
-    /** Rule 0 sets and unsets fact 1 and so triggers itself again and again. */
-    private static TriggerAnalyzer circle() {
-        return program(new int[][] {{3, 0, 0, 2, 3}}, 3);
-    }
-
-    /** Rule 0 may play for ever on its own event, until rule 1 unsets what its condition needs. */
-    private static TriggerAnalyzer circleWithEnd() {
-        return program(new int[][] {{1, 2, 0, 0, 1}, {1, 0, 0, 2}}, 3, 1);
-    }
-
-    private static final int[][] THOUSAND = {
-        {9, 2, 8, 4, 0}, {10, 0, 0, 2, 1, 0}, {3, 0, 0, 6, 2, 7}, {7, 0, 0, 7, 10, 0, 7},
-        {4, 0, 0, 11, 4}, {7, 0, 0, 1, 6}, {11, 0, 1, 2, 11, 3, 5}, {11, 0, 0, 1, 9, 5}};
-    private static final int[] THOUSAND_CHANGES = {5, 10, 4, 2, 9, 9};
-
-    private static final int[][] ONE_TOO_MANY = {
-        {2, 16, 0, 2, 6, 4}, {11, 48, 14, 10, 2, 3, 2}, {3, 0, 0, 0, 6}, {4, 1, 0, 2, 6},
-        {3, 0, 0, 2}, {3, 0, 0, 5, 3, 8}, {6, 0, 0, 0, 9, 7}, {9, 8, 0, 11}};
-    private static final int[] ONE_TOO_MANY_CHANGES = {7, 3};
-
-    /** Some 1.4e31 ways, so that their number wraps around. */
-    private static final int[][] MANY_WAYS = {
-        {7, 22, 20, 9, 6}, {7, 2, 16, 6, 2, 1, 0}, {0, 8, 22, 7, 6, 0, 7}, {7, 40, 7, 10, 3, 0},
-        {7, 13, 35, 5, 2}, {6, 0, 8, 7, 1}, {3, 0, 6, 7, 6, 0}, {7, 20, 46, 8}};
-    private static final int[] MANY_WAYS_CHANGES = {3, 11, 7, 3};
-
     private static void newObject() {
         TriggerAnalyzer x = new TriggerAnalyzer();
         same("new: ruleCount", x.ruleCount(), 0);
@@ -183,7 +123,7 @@ public final class PromiseTest {
     }
 
     private static void addAction() {
-        TriggerAnalyzer x = withRules(2);
+        TriggerAnalyzer x = Programs.withRules(2);
         for (int i = 0; i < 4; i++) {
             same("addAction: count", x.addAction(0, i, true), i + 1);
         }
@@ -201,7 +141,7 @@ public final class PromiseTest {
     }
 
     private static void turn() {
-        TriggerAnalyzer x = program(new int[][] {{1, 0, 0}, {1, 0, 0}}, 1);
+        TriggerAnalyzer x = Programs.program(new int[][] {{1, 0, 0}, {1, 0, 0}}, 1);
         same("turn: both triggered", x.triggered(), 3);
         yes("turn: was on", x.turn(0, true));
         same("turn: on leaves it triggered", x.triggered(), 3);
@@ -221,7 +161,7 @@ public final class PromiseTest {
     }
 
     private static void rank() {
-        TriggerAnalyzer x = withRules(6);
+        TriggerAnalyzer x = Programs.withRules(6);
         yes("rank: new", x.rank(0, 1));
         no("rank: again", x.rank(0, 1));
         yes("rank: next", x.rank(1, 2));
@@ -241,7 +181,7 @@ public final class PromiseTest {
     }
 
     private static void isAbove() {
-        TriggerAnalyzer x = withRules(4);
+        TriggerAnalyzer x = Programs.withRules(4);
         x.rank(3, 1);
         x.rank(1, 0);
         yes("isAbove: ranked", x.isAbove(3, 1));
@@ -260,12 +200,12 @@ public final class PromiseTest {
 
     private static void ruleCount() {
         for (int i = 0; i <= 8; i++) {
-            same("ruleCount", withRules(i).ruleCount(), i);
+            same("ruleCount", Programs.withRules(i).ruleCount(), i);
         }
     }
 
     private static void put() {
-        TriggerAnalyzer x = program(new int[][] {{1, 0, 0}, {0, 0, 0}}, 1);
+        TriggerAnalyzer x = Programs.program(new int[][] {{1, 0, 0}, {0, 0, 0}}, 1);
         same("put: triggered before", x.triggered(), 1);
         same("put: before", x.put(63), 1);
         same("put: nothing triggered", x.triggered(), 0);
@@ -279,7 +219,7 @@ public final class PromiseTest {
     }
 
     private static void change() {
-        TriggerAnalyzer x = program(new int[][] {{1, 0, 0}, {0, 0, 0}, {11, 63, 63}});
+        TriggerAnalyzer x = Programs.program(new int[][] {{1, 0, 0}, {0, 0, 0}, {11, 63, 63}});
         same("change: sets", x.change(0, true), 1);
         same("change: sets again", x.change(0, true), 1);
         same("change: unsets", x.change(0, false), 3);
@@ -287,7 +227,7 @@ public final class PromiseTest {
         same("change: false conditions are triggered, too", x.change(5, true), 7);
         same("change: fact without rules", x.change(4, true), 7);
         same("change: facts", x.facts(), 48);
-        TriggerAnalyzer y = program(new int[][] {{1, 0, 0}});
+        TriggerAnalyzer y = Programs.program(new int[][] {{1, 0, 0}});
         y.put(1);
         same("change: set already", y.change(0, true), 0);
         for (int fact : NO_FACTS) {
@@ -305,13 +245,13 @@ public final class PromiseTest {
         }
         x.change(3, false);
         same("facts: unset", x.facts(), 55);
-        TriggerAnalyzer y = diamond();
+        TriggerAnalyzer y = Programs.diamond();
         y.run(500);
         same("facts: played", y.facts(), 5);
     }
 
     private static void triggered() {
-        TriggerAnalyzer x = withRules(8);
+        TriggerAnalyzer x = Programs.withRules(8);
         same("triggered: none", x.triggered(), 0);
         x.change(0, true);
         same("triggered: all", x.triggered(), 255);
@@ -322,7 +262,7 @@ public final class PromiseTest {
     }
 
     private static void ready() {
-        TriggerAnalyzer x = withRules(4);
+        TriggerAnalyzer x = Programs.withRules(4);
         x.rank(2, 1);
         x.rank(1, 0);
         same("ready: none triggered", x.ready(), 0);
@@ -332,14 +272,14 @@ public final class PromiseTest {
         same("ready: the next", x.ready(), 10);
         x.turn(1, false);
         same("ready: above only while triggered", x.ready(), 9);
-        TriggerAnalyzer y = program(new int[][] {{1, 0, 0}, {3, 0, 0}, {1, 0, 0}}, 1);
+        TriggerAnalyzer y = Programs.program(new int[][] {{1, 0, 0}, {3, 0, 0}, {1, 0, 0}}, 1);
         y.rank(2, 1);
         y.rank(1, 0);
         same("ready: by way of a rule that is not triggered", y.ready(), 4);
     }
 
     private static void play() {
-        TriggerAnalyzer x = program(new int[][] {{1, 2, 4, 6, 7, 6}, {7, 0, 0}}, 1);
+        TriggerAnalyzer x = Programs.program(new int[][] {{1, 2, 4, 6, 7, 6}, {7, 0, 0}}, 1);
         no("play: a fact is missing", x.play(0));
         same("play: triggered no more", x.triggered(), 0);
         x.put(6);
@@ -352,13 +292,13 @@ public final class PromiseTest {
         same("play: actions are done in order", x.facts(), 3);
         same("play: actions trigger", x.triggered(), 2);
         yes("play: without actions", x.play(1));
-        TriggerAnalyzer y = circle();
+        TriggerAnalyzer y = Programs.circle();
         yes("play: triggers itself", y.play(0));
         same("play: is triggered again", y.triggered(), 1);
-        TriggerAnalyzer z = program(new int[][] {{1, 1, 1, 3}}, 1);
+        TriggerAnalyzer z = Programs.program(new int[][] {{1, 1, 1, 3}}, 1);
         no("play: must and must not", z.play(0));
         refused("play: not triggered", STATE, () -> z.play(0));
-        TriggerAnalyzer w = withRules(2);
+        TriggerAnalyzer w = Programs.withRules(2);
         w.rank(1, 0);
         w.change(0, true);
         refused("play: one above is triggered", STATE, () -> w.play(0));
@@ -371,7 +311,7 @@ public final class PromiseTest {
     }
 
     private static void run() {
-        TriggerAnalyzer x = diamond();
+        TriggerAnalyzer x = Programs.diamond();
         same("run: none", x.run(0), 0);
         same("run: still triggered", x.triggered(), 3);
         same("run: one", x.run(1), 1);
@@ -379,12 +319,12 @@ public final class PromiseTest {
         same("run: the rest", x.run(500), 2);
         same("run: ended", x.run(500), 0);
         same("run: facts", x.facts(), 5);
-        TriggerAnalyzer y = withRules(3);
+        TriggerAnalyzer y = Programs.withRules(3);
         y.rank(2, 0);
         y.change(0, true);
         same("run: two", y.run(2), 2);
         same("run: the smallest that is ready", y.triggered(), 1);
-        same("run: a circle", circle().run(500), 500);
+        same("run: a circle", Programs.circle().run(500), 500);
         refused("run: -1", ARGUMENT, () -> x.run(-1));
         refused("run: 501", ARGUMENT, () -> x.run(501));
         refused("run: greatest", ARGUMENT, () -> x.run(Integer.MAX_VALUE));
@@ -392,24 +332,24 @@ public final class PromiseTest {
     }
 
     private static void explore() {
-        TriggerAnalyzer x = diamond();
+        TriggerAnalyzer x = Programs.diamond();
         same("explore: diamond", x.explore(), 8);
         same("explore: again", x.explore(), 8);
         same("explore: leaves the facts", x.facts(), 1);
         same("explore: leaves the triggered", x.triggered(), 3);
-        TriggerAnalyzer y = diamond();
+        TriggerAnalyzer y = Programs.diamond();
         y.explore();
         same("explore: the order of finding", y.after(0, 0) * 10 + y.after(0, 1), 12);
         same("explore: an end alone", new TriggerAnalyzer().explore(), 1);
-        same("explore: a circle", circle().explore(), 1);
-        TriggerAnalyzer u = explored(program(new int[][] {{1, 0, 0, 0}}));
+        same("explore: a circle", Programs.circle().explore(), 1);
+        TriggerAnalyzer u = Programs.explored(Programs.program(new int[][] {{1, 0, 0, 0}}));
         u.change(0, true);
         same("explore: meets again what an earlier exploration found", u.explore(), 2);
         same("explore: numbers it anew", u.after(0, 0), 1);
-        TriggerAnalyzer w = withRules(8);
+        TriggerAnalyzer w = Programs.withRules(8);
         w.change(0, true);
         same("explore: all subsets", w.explore(), 256);
-        TriggerAnalyzer v = withRules(8);
+        TriggerAnalyzer v = Programs.withRules(8);
         for (int i = 0; i < 7; i++) {
             v.rank(i, i + 1);
         }
@@ -418,35 +358,19 @@ public final class PromiseTest {
     }
 
     private static void exploreLimit() {
-        TriggerAnalyzer most = program(THOUSAND, THOUSAND_CHANGES);
+        TriggerAnalyzer most = Programs.THOUSAND.make();
         same("explore: 1000", most.explore(), 1000);
         same("explore: the last of 1000", most.triggeredOf(999) >= 0 ? 1 : 0, 1);
         refused("explore: none behind the last", INDEX, () -> most.factsOf(1000));
-        TriggerAnalyzer many = program(ONE_TOO_MANY, ONE_TOO_MANY_CHANGES);
+        TriggerAnalyzer many = Programs.ONE_TOO_MANY.make();
         same("explore: 1001", many.explore(), -1);
         same("explore: 1001 again", many.explore(), -1);
-        ReferenceAnalyzer plain = referenceOf(ONE_TOO_MANY, ONE_TOO_MANY_CHANGES);
+        ReferenceAnalyzer plain = Programs.ONE_TOO_MANY.makeReference();
         same("explore: 1001 in the reference", plain.explore(2000), 1001);
         many.put(0);
         same("explore: few after too many", many.explore(), 1);
-        for (int change : ONE_TOO_MANY_CHANGES) {
-            many.change(change / 2, change % 2 == 1);
-        }
+        Programs.ONE_TOO_MANY.makeChanges(many);
         same("explore: too many after few", many.explore(), -1);
-    }
-
-    private static ReferenceAnalyzer referenceOf(int[][] rules, int... changes) {
-        ReferenceAnalyzer plain = new ReferenceAnalyzer();
-        for (int[] row : rules) {
-            int number = plain.addRule(row[0] / 2, row[0] % 2 == 1, row[1], row[2]);
-            for (int k = 3; k < row.length; k++) {
-                plain.addAction(number, row[k] / 2, row[k] % 2 == 1);
-            }
-        }
-        for (int change : changes) {
-            plain.change(change / 2, change % 2 == 1);
-        }
-        return plain;
     }
 
     private static void exploreIsKept() {
@@ -467,7 +391,7 @@ public final class PromiseTest {
         keeps("change", INDEX, x -> x.change(-1, true));
         keeps("play", STATE, x -> x.play(2));
         keeps("run", ARGUMENT, x -> x.run(501));
-        TriggerAnalyzer x = diamond();
+        TriggerAnalyzer x = Programs.diamond();
         x.explore();
         x.isAbove(0, 1);
         x.ruleCount();
@@ -488,7 +412,7 @@ public final class PromiseTest {
     }
 
     private static void forgets(String what, CallOn call) {
-        TriggerAnalyzer x = diamond();
+        TriggerAnalyzer x = Programs.diamond();
         x.explore();
         call.make(x);
         refused(what + ": forgets what was explored", STATE, () -> x.endCount());
@@ -497,16 +421,16 @@ public final class PromiseTest {
     }
 
     private static void keeps(String what, String name, CallOn call) {
-        TriggerAnalyzer x = diamond();
+        TriggerAnalyzer x = Programs.diamond();
         x.explore();
         refused(what, name, () -> call.make(x));
         same(what + ": keeps what was explored", x.endCount(), 2);
     }
 
     private static void needExploration() {
-        TriggerAnalyzer many = program(ONE_TOO_MANY, ONE_TOO_MANY_CHANGES);
+        TriggerAnalyzer many = Programs.ONE_TOO_MANY.make();
         many.explore();
-        for (TriggerAnalyzer x : new TriggerAnalyzer[] {new TriggerAnalyzer(), diamond(), many}) {
+        for (TriggerAnalyzer x : new TriggerAnalyzer[] {new TriggerAnalyzer(), Programs.diamond(), many}) {
             refused("unexplored: factsOf", STATE, () -> x.factsOf(0));
             refused("unexplored: factsOf -1", STATE, () -> x.factsOf(-1));
             refused("unexplored: triggeredOf", STATE, () -> x.triggeredOf(0));
@@ -527,7 +451,7 @@ public final class PromiseTest {
     }
 
     private static void factsOfAndTriggeredOf() {
-        TriggerAnalyzer x = diamond();
+        TriggerAnalyzer x = Programs.diamond();
         x.explore();
         // 0 leads to 1 and 2, 1 to 3 and 4, 2 to 5, both 3 and 4 to the end 6, 5 to the end 7.
         int[] facts = {1, 3, 1, 1, 7, 3, 5, 7};
@@ -543,7 +467,7 @@ public final class PromiseTest {
     }
 
     private static void after() {
-        TriggerAnalyzer x = diamond();
+        TriggerAnalyzer x = Programs.diamond();
         x.explore();
         same("after 0, 0", x.after(0, 0), 1);
         same("after 0, 1", x.after(0, 1), 2);
@@ -562,112 +486,90 @@ public final class PromiseTest {
         for (int number : new int[] {-1, 8, 1000, Integer.MAX_VALUE, Integer.MIN_VALUE, 1 << 29}) {
             refused("after " + number, INDEX, () -> x.after(number, 0));
         }
-        TriggerAnalyzer y = withRules(2);
+        TriggerAnalyzer y = Programs.withRules(2);
         y.rank(1, 0);
         y.change(0, true);
         y.explore();
         same("after: triggered, not ready", y.after(0, 0), -1);
         same("after: ready", y.after(0, 1), 1);
-        TriggerAnalyzer z = circle();
+        TriggerAnalyzer z = Programs.circle();
         z.explore();
         same("after: itself", z.after(0, 0), 0);
     }
 
-    private static TriggerAnalyzer explored(TriggerAnalyzer x) {
-        x.explore();
-        return x;
-    }
-
     private static void terminates() {
-        yes("terminates: nothing triggered", explored(new TriggerAnalyzer()).terminates());
-        yes("terminates: diamond", explored(diamond()).terminates());
-        no("terminates: circle", explored(circle()).terminates());
-        no("terminates: circle with end", explored(circleWithEnd()).terminates());
-        TriggerAnalyzer ranked = circleWithEnd();
+        yes("terminates: nothing triggered", Programs.explored(new TriggerAnalyzer()).terminates());
+        yes("terminates: diamond", Programs.explored(Programs.diamond()).terminates());
+        no("terminates: circle", Programs.explored(Programs.circle()).terminates());
+        no("terminates: circle with end", Programs.explored(Programs.circleWithEnd()).terminates());
+        TriggerAnalyzer ranked = Programs.circleWithEnd();
         ranked.rank(1, 0);
-        yes("terminates: the rank breaks the circle", explored(ranked).terminates());
-        TriggerAnalyzer late = program(new int[][] {{1, 0, 0, 3}, {3, 0, 0, 2}, {2, 0, 0, 3}}, 1);
-        no("terminates: a circle behind the first", explored(late).terminates());
-        TriggerAnalyzer unused = circle();
+        yes("terminates: the rank breaks the circle", Programs.explored(ranked).terminates());
+        TriggerAnalyzer late = Programs.program(new int[][] {{1, 0, 0, 3}, {3, 0, 0, 2}, {2, 0, 0, 3}}, 1);
+        no("terminates: a circle behind the first", Programs.explored(late).terminates());
+        TriggerAnalyzer unused = Programs.circle();
         unused.put(0);
-        yes("terminates: from this first situation", explored(unused).terminates());
-        TriggerAnalyzer twice = explored(circle());
+        yes("terminates: from this first situation", Programs.explored(unused).terminates());
+        TriggerAnalyzer twice = Programs.explored(Programs.circle());
         twice.put(0);
-        yes("terminates: explored again", explored(twice).terminates());
+        yes("terminates: explored again", Programs.explored(twice).terminates());
         same("longest: explored again", twice.longest(), 0);
         same("ways: explored again", twice.ways(), 1);
     }
 
     private static void ends() {
-        TriggerAnalyzer x = explored(diamond());
+        TriggerAnalyzer x = Programs.explored(Programs.diamond());
         same("endCount: diamond", x.endCount(), 2);
         same("end 0", x.end(0), 5);
         same("end 1", x.end(1), 7);
         for (int index : new int[] {-1, 2, 63, 64, Integer.MAX_VALUE, Integer.MIN_VALUE}) {
             refused("end " + index, INDEX, () -> x.end(index));
         }
-        same("endCount: circle", explored(circle()).endCount(), 0);
-        refused("end: circle", INDEX, () -> explored(circle()).end(0));
+        same("endCount: circle", Programs.explored(Programs.circle()).endCount(), 0);
+        refused("end: circle", INDEX, () -> Programs.explored(Programs.circle()).end(0));
         TriggerAnalyzer y = new TriggerAnalyzer();
         y.put(42);
-        same("endCount: the first one", explored(y).endCount(), 1);
+        same("endCount: the first one", Programs.explored(y).endCount(), 1);
         same("end: the first one", y.end(0), 42);
-        same("endCount: circle with end", explored(circleWithEnd()).endCount(), 1);
+        same("endCount: circle with end", Programs.explored(Programs.circleWithEnd()).endCount(), 1);
     }
 
     private static void shortest() {
-        same("shortest: the first is an end", explored(new TriggerAnalyzer()).shortest(), 0);
-        same("shortest: diamond", explored(diamond()).shortest(), 3);
-        same("shortest: circle", explored(circle()).shortest(), -1);
-        same("shortest: circle with end", explored(circleWithEnd()).shortest(), 2);
-        same("shortest: shorter than the longest", explored(detour()).shortest(), 2);
-    }
-
-    /** If rule 1 plays first, rule 0's condition is false, and it triggers rule 2 no more. */
-    private static TriggerAnalyzer detour() {
-        return program(new int[][] {{1, 0, 2, 5}, {1, 0, 0, 3}, {5, 0, 0}}, 1);
+        same("shortest: the first is an end", Programs.explored(new TriggerAnalyzer()).shortest(), 0);
+        same("shortest: diamond", Programs.explored(Programs.diamond()).shortest(), 3);
+        same("shortest: circle", Programs.explored(Programs.circle()).shortest(), -1);
+        same("shortest: circle with end", Programs.explored(Programs.circleWithEnd()).shortest(), 2);
+        same("shortest: shorter than the longest", Programs.explored(Programs.detour()).shortest(), 2);
     }
 
     private static void longest() {
-        same("longest: the first is an end", explored(new TriggerAnalyzer()).longest(), 0);
-        same("longest: detour", explored(detour()).longest(), 3);
-        same("longest: circle", explored(circle()).longest(), -1);
-        same("longest: circle with end", explored(circleWithEnd()).longest(), -1);
-        TriggerAnalyzer x = withRules(8);
+        same("longest: the first is an end", Programs.explored(new TriggerAnalyzer()).longest(), 0);
+        same("longest: detour", Programs.explored(Programs.detour()).longest(), 3);
+        same("longest: circle", Programs.explored(Programs.circle()).longest(), -1);
+        same("longest: circle with end", Programs.explored(Programs.circleWithEnd()).longest(), -1);
+        TriggerAnalyzer x = Programs.withRules(8);
         x.change(0, true);
-        same("longest: eight", explored(x).longest(), 8);
+        same("longest: eight", Programs.explored(x).longest(), 8);
     }
 
     private static void ways() {
-        same("ways: the first is an end", explored(new TriggerAnalyzer()).ways(), 1);
-        same("ways: diamond", explored(diamond()).ways(), 3);
-        same("ways: detour", explored(detour()).ways(), 3);
-        same("ways: circle", explored(circle()).ways(), -1);
-        same("ways: circle with end", explored(circleWithEnd()).ways(), -1);
-        TriggerAnalyzer x = withRules(8);
+        same("ways: the first is an end", Programs.explored(new TriggerAnalyzer()).ways(), 1);
+        same("ways: diamond", Programs.explored(Programs.diamond()).ways(), 3);
+        same("ways: detour", Programs.explored(Programs.detour()).ways(), 3);
+        same("ways: circle", Programs.explored(Programs.circle()).ways(), -1);
+        same("ways: circle with end", Programs.explored(Programs.circleWithEnd()).ways(), -1);
+        TriggerAnalyzer x = Programs.withRules(8);
         x.change(0, true);
-        same("ways: 8 factorial", explored(x).ways(), 40320);
-        TriggerAnalyzer many = explored(program(MANY_WAYS, MANY_WAYS_CHANGES));
-        BigInteger exact = exactWays(many, 0, new BigInteger[1000]);
+        same("ways: 8 factorial", Programs.explored(x).ways(), 40320);
+        TriggerAnalyzer many = Programs.MANY_WAYS.makeExplored();
+        BigInteger exact = Programs.MANY_WAYS.exploredReference().exactWays();
         yes("ways: really wraps", exact.bitLength() > 64);
         yes("ways: many terminates", many.terminates());
         same("ways: wraps around", many.ways(), exact.longValue());
     }
 
-    private static BigInteger exactWays(TriggerAnalyzer x, int from, BigInteger[] known) {
-        if (known[from] == null) {
-            BigInteger sum = x.triggeredOf(from) == 0 ? BigInteger.ONE : BigInteger.ZERO;
-            for (int r = 0; r < x.ruleCount(); r++) {
-                int to = x.after(from, r);
-                sum = to < 0 ? sum : sum.add(exactWays(x, to, known));
-            }
-            known[from] = sum;
-        }
-        return known[from];
-    }
-
     private static void isPlayed() {
-        TriggerAnalyzer x = program(new int[][] {{1, 0, 0, 3}, {3, 0, 0}, {5, 0, 0}, {1, 63, 63}}, 1);
+        TriggerAnalyzer x = Programs.program(new int[][] {{1, 0, 0, 3}, {3, 0, 0}, {5, 0, 0}, {1, 63, 63}}, 1);
         x.explore();
         yes("isPlayed: at once", x.isPlayed(0));
         yes("isPlayed: later", x.isPlayed(1));
@@ -677,7 +579,7 @@ public final class PromiseTest {
         for (int number : NO_NUMBERS) {
             refused("isPlayed: " + number, INDEX, () -> x.isPlayed(number));
         }
-        TriggerAnalyzer y = program(new int[][] {{1, 0, 0, 2, 3}, {3, 0, 0, 2, 3}, {1, 0, 0}}, 3, 1);
+        TriggerAnalyzer y = Programs.program(new int[][] {{1, 0, 0, 2, 3}, {3, 0, 0, 2, 3}, {1, 0, 0}}, 3, 1);
         y.rank(1, 2);
         y.explore();
         no("isPlayed: triggered, but never ready", y.isPlayed(2));
@@ -687,28 +589,28 @@ public final class PromiseTest {
     }
 
     private static void choice() {
-        sameShare("choice: none", explored(new TriggerAnalyzer()).choice(), 0.0);
-        sameShare("choice: diamond", explored(diamond()).choice(), 2 / 8.0);
-        TriggerAnalyzer x = withRules(2);
+        sameShare("choice: none", Programs.explored(new TriggerAnalyzer()).choice(), 0.0);
+        sameShare("choice: diamond", Programs.explored(Programs.diamond()).choice(), 2 / 8.0);
+        TriggerAnalyzer x = Programs.withRules(2);
         x.change(0, true);
-        sameShare("choice: two", explored(x).choice(), 0.25);
+        sameShare("choice: two", Programs.explored(x).choice(), 0.25);
         x.rank(0, 1);
-        sameShare("choice: ranked", explored(x).choice(), 0.0);
-        TriggerAnalyzer y = withRules(3);
+        sameShare("choice: ranked", Programs.explored(x).choice(), 0.0);
+        TriggerAnalyzer y = Programs.withRules(3);
         y.change(0, true);
         y.rank(0, 1);
-        sameShare("choice: a third", explored(y).choice(), 2 / 6.0);
-        TriggerAnalyzer z = program(new int[][] {{1, 0, 0, 0, 1}, {1, 0, 0, 0, 1}}, 1);
+        sameShare("choice: a third", Programs.explored(y).choice(), 2 / 6.0);
+        TriggerAnalyzer z = Programs.program(new int[][] {{1, 0, 0, 0, 1}, {1, 0, 0, 0, 1}}, 1);
         same("choice: one situation", z.explore(), 1);
         sameShare("choice: always", z.choice(), 1.0);
     }
 
     private static void canTrigger() {
-        TriggerAnalyzer x = program(new int[][] {{1, 0, 0, 3, 4}, {3, 0, 0}, {4, 63, 63}, {3, 0, 0}, {5, 0, 0, 5}});
+        TriggerAnalyzer x = Programs.program(new int[][] {{1, 0, 0, 3, 4}, {3, 0, 0}, {4, 63, 63}, {3, 0, 0}, {5, 0, 0, 5}});
         same("canTrigger: 0", x.canTrigger(0), 14);
         same("canTrigger: no actions", x.canTrigger(1), 0);
         same("canTrigger: itself", x.canTrigger(4), 16);
-        TriggerAnalyzer y = program(new int[][] {{0, 0, 0}, {3, 0, 0}, {3, 0, 0, 5}});
+        TriggerAnalyzer y = Programs.program(new int[][] {{0, 0, 0}, {3, 0, 0}, {3, 0, 0, 5}});
         same("canTrigger: no action about fact 0", y.canTrigger(1) + y.canTrigger(2), 0);
         x.turn(3, false);
         same("canTrigger: not one that is off", x.canTrigger(0), 6);
@@ -724,7 +626,7 @@ public final class PromiseTest {
     }
 
     private static void circular() {
-        TriggerAnalyzer x = program(new int[][] {
+        TriggerAnalyzer x = Programs.program(new int[][] {
             {1, 0, 0, 3}, {3, 0, 0, 5}, {5, 0, 0, 1}, {1, 0, 0, 7}, {7, 0, 0}, {9, 0, 0, 9}, {11, 0, 0, 1}});
         same("circular: a circle of three and one alone", x.circular(), 39);
         x.turn(1, false);
@@ -739,7 +641,7 @@ public final class PromiseTest {
             for (int k = 0; k < 8; k++) {
                 place = order[k] == i ? k : place;
             }
-            rule(y, events[i], 0, 0, events[order[(place + 1) % 8]]);
+            Programs.rule(y, events[i], 0, 0, events[order[(place + 1) % 8]]);
         }
         same("circular: a circle of eight", y.circular(), 255);
     }
@@ -761,7 +663,7 @@ public final class PromiseTest {
         no("commute: in the mustNot of a", commuting(new int[] {1, 0, 2}, new int[] {1, 0, 0, 2}));
         yes("commute: in its own condition", commuting(new int[] {1, 2, 0, 2}, new int[] {1, 0, 0}));
         yes("commute: about the event's fact alone", commuting(new int[] {1, 0, 0, 2}, new int[] {3, 0, 0}));
-        TriggerAnalyzer x = program(new int[][] {{1, 0, 0, 3}, {3, 0, 0}, {0, 0, 0, 0}});
+        TriggerAnalyzer x = Programs.program(new int[][] {{1, 0, 0, 3}, {3, 0, 0}, {0, 0, 0, 0}});
         x.turn(0, false);
         yes("commute: a is off", x.commute(0, 1));
         yes("commute: b is off", x.commute(1, 0));
@@ -776,7 +678,7 @@ public final class PromiseTest {
     }
 
     private static boolean commuting(int[] a, int[] b) {
-        TriggerAnalyzer x = program(new int[][] {a, b});
+        TriggerAnalyzer x = Programs.program(new int[][] {a, b});
         boolean there = x.commute(0, 1);
         if (there != x.commute(1, 0)) {
             wrong++;
@@ -786,7 +688,7 @@ public final class PromiseTest {
     }
 
     private static void conflicts() {
-        TriggerAnalyzer x = program(new int[][] {{1, 0, 0, 3}, {1, 0, 0, 2}, {1, 2, 0}, {1, 0, 0}});
+        TriggerAnalyzer x = Programs.program(new int[][] {{1, 0, 0, 3}, {1, 0, 0, 2}, {1, 2, 0}, {1, 0, 0}});
         same("conflictCount", x.conflictCount(), 3);
         same("conflict 0", x.conflict(0), 1);
         same("conflict 1", x.conflict(1), 2);
@@ -800,7 +702,7 @@ public final class PromiseTest {
         refused("conflict: none", INDEX, () -> x.conflict(0));
         TriggerAnalyzer y = new TriggerAnalyzer();
         for (int i = 0; i < 8; i++) {
-            rule(y, 1, 0, 0, 1);
+            Programs.rule(y, 1, 0, 0, 1);
         }
         same("conflictCount: all", y.conflictCount(), 28);
         same("conflict: the last", y.conflict(27), 67);
@@ -820,7 +722,7 @@ public final class PromiseTest {
     }
 
     private static void digest() {
-        TriggerAnalyzer x = program(new int[][] {{11, 63, 1, 3, 4}, {2, 5, 6, 7, 8, 9, 10}, {11, 0, 0}});
+        TriggerAnalyzer x = Programs.program(new int[][] {{11, 63, 1, 3, 4}, {2, 5, 6, 7, 8, 9, 10}, {11, 0, 0}});
         same("digest: rules", x.digest(), digestOf(
                 3, 11, 63, 1, 2, 3, 4, 1, 0, 2, 5, 6, 4, 7, 8, 9, 10, 1, 0, 11, 0, 0, 0, 1, 0, 0, 0));
         x.rank(2, 0);
@@ -839,14 +741,14 @@ public final class PromiseTest {
         same("digest: explored", x.digest(), digestOf(0, 9, 0, 1));
         x.put(9);
         same("digest: forgotten", x.digest(), digestOf(0, 9, 0));
-        TriggerAnalyzer many = program(ONE_TOO_MANY, ONE_TOO_MANY_CHANGES);
+        TriggerAnalyzer many = Programs.ONE_TOO_MANY.make();
         long before = many.digest();
         many.explore();
         same("digest: too many", many.digest(), before * 31 - 1);
     }
 
     private static void throwsChangeNothing() {
-        TriggerAnalyzer x = program(new int[][] {{1, 0, 0, 3, 3, 3, 3}, {1, 0, 0}}, 1);
+        TriggerAnalyzer x = Programs.program(new int[][] {{1, 0, 0, 3, 3, 3, 3}, {1, 0, 0}}, 1);
         x.rank(0, 1);
         x.explore();
         long before = x.digest();

@@ -1,3 +1,4 @@
+import java.math.BigInteger;
 import java.util.ArrayList;
 import java.util.HashMap;
 import java.util.List;
@@ -287,14 +288,19 @@ final class ReferenceAnalyzer {
     }
 
     long ways() {
-        return terminates() ? waysFrom(0, new HashMap<>()) : -1;
+        return terminates() ? exactWays().longValue() : -1;
     }
 
-    private long waysFrom(int s, Map<Integer, Long> known) {
+    /** The number of ways as it is before it wraps around, if playing comes to an end. */
+    BigInteger exactWays() {
+        return waysFrom(0, new HashMap<>());
+    }
+
+    private BigInteger waysFrom(int s, Map<Integer, BigInteger> known) {
         if (!known.containsKey(s)) {
-            long sum = explored.list.get(s).triggered().isEmpty() ? 1 : 0;
+            BigInteger sum = explored.list.get(s).triggered().isEmpty() ? BigInteger.ONE : BigInteger.ZERO;
             for (int next : explored.next.get(s).values()) {
-                sum += waysFrom(next, known);
+                sum = sum.add(waysFrom(next, known));
             }
             known.put(s, sum);
         }

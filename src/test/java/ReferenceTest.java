@@ -7,7 +7,7 @@ public final class ReferenceTest {
 
     private final Random random;
     private final long seed;
-    private final TriggerAnalyzer real = new TriggerAnalyzer();
+    private final Renewed real = new Renewed();
     private final ReferenceAnalyzer plain = new ReferenceAnalyzer();
     private boolean isFull;
     private final StringBuilder log = new StringBuilder();
@@ -78,14 +78,14 @@ public final class ReferenceTest {
         int must = smallSet();
         int mustNot = smallSet();
         same("addRule(" + fact + ", " + isSet + ", " + must + ", " + mustNot + ")",
-                real.addRule(fact, isSet, must, mustNot), plain.addRule(fact, isSet, must, mustNot));
+                real.change(x -> x.addRule(fact, isSet, must, mustNot)), plain.addRule(fact, isSet, must, mustNot));
     }
 
     private void addAction(int rule) {
         int fact = random.nextInt(6);
         boolean isSet = random.nextBoolean();
         same("addAction(" + rule + ", " + fact + ", " + isSet + ")",
-                real.addAction(rule, fact, isSet), plain.addAction(rule, fact, isSet));
+                real.change(x -> x.addAction(rule, fact, isSet)), plain.addAction(rule, fact, isSet));
     }
 
     private void step() {
@@ -96,32 +96,34 @@ public final class ReferenceTest {
         boolean flag = random.nextBoolean();
         int kind = random.nextInt(12);
         if (kind < 5) {
-            same("change(" + fact + ", " + flag + ")", real.change(fact, flag), plain.change(fact, flag));
+            same("change(" + fact + ", " + flag + ")", real.change(x -> x.change(fact, flag)), plain.change(fact, flag));
         } else if (kind == 5) {
             int facts = random.nextInt(64);
-            same("put(" + facts + ")", real.put(facts), plain.put(facts));
+            same("put(" + facts + ")", real.change(x -> x.put(facts)), plain.put(facts));
         } else if (kind == 6) {
             int most = random.nextInt(3);
-            same("run(" + most + ")", real.run(most), plain.run(most));
+            same("run(" + most + ")", real.change(x -> x.run(most)), plain.run(most));
         } else if (kind == 7 && count < 8) {
             addRule();
         } else if (kind == 8 && count > 0 && plain.rules.get(rule).actions.size() < 4) {
             addAction(rule);
         } else if (kind == 9 && count > 0) {
             boolean isOn = random.nextInt(3) > 0;
-            same("turn(" + rule + ", " + isOn + ")", of(real.turn(rule, isOn)), of(plain.turn(rule, isOn)));
+            same("turn(" + rule + ", " + isOn + ")",
+                    real.change(x -> of(x.turn(rule, isOn))), of(plain.turn(rule, isOn)));
         } else if (kind == 10 && rule != other && random.nextInt(3) == 0 && !plain.isAbove(other, rule)) {
-            same("rank(" + rule + ", " + other + ")", of(real.rank(rule, other)), of(plain.rank(rule, other)));
+            same("rank(" + rule + ", " + other + ")",
+                    real.change(x -> of(x.rank(rule, other))), of(plain.rank(rule, other)));
         } else if (kind == 11 && (plain.ready() >> rule & 1) == 1) {
-            same("play(" + rule + ")", of(real.play(rule)), of(plain.play(rule)));
+            same("play(" + rule + ")", real.change(x -> of(x.play(rule))), of(plain.play(rule)));
         }
     }
 
     private void compareAll(boolean alsoExplored) {
-        same("facts()", real.facts(), ReferenceAnalyzer.maskOf(plain.present.facts()));
-        same("triggered()", real.triggered(), ReferenceAnalyzer.maskOf(plain.present.triggered()));
-        same("ready()", real.ready(), plain.ready());
-        same("digest()", real.digest(), plain.digest());
+        same("facts()", real.toAsk().facts(), ReferenceAnalyzer.maskOf(plain.present.facts()));
+        same("triggered()", real.toAsk().triggered(), ReferenceAnalyzer.maskOf(plain.present.triggered()));
+        same("ready()", real.toAsk().ready(), plain.ready());
+        same("digest()", real.toAsk().digest(), plain.digest());
         compareJudging();
         if (alsoExplored && wrong == 0) {
             compareExplored();
@@ -130,26 +132,26 @@ public final class ReferenceTest {
 
     private void compareJudging() {
         int count = plain.rules.size();
-        same("ruleCount()", real.ruleCount(), count);
-        same("circular()", real.circular(), plain.circular());
+        same("ruleCount()", real.toAsk().ruleCount(), count);
+        same("circular()", real.toAsk().circular(), plain.circular());
         for (int a = 0; a < count; a++) {
-            same("canTrigger(" + a + ")", real.canTrigger(a), plain.canTrigger(a));
+            same("canTrigger(" + a + ")", real.toAsk().canTrigger(a), plain.canTrigger(a));
             for (int b = 0; b < count; b++) {
-                same("isAbove(" + a + ", " + b + ")", of(real.isAbove(a, b)), of(plain.isAbove(a, b)));
+                same("isAbove(" + a + ", " + b + ")", of(real.toAsk().isAbove(a, b)), of(plain.isAbove(a, b)));
                 if (a != b) {
-                    same("commute(" + a + ", " + b + ")", of(real.commute(a, b)), of(plain.commute(a, b)));
+                    same("commute(" + a + ", " + b + ")", of(real.toAsk().commute(a, b)), of(plain.commute(a, b)));
                 }
             }
         }
-        same("conflictCount()", real.conflictCount(), plain.conflicts().size());
+        same("conflictCount()", real.toAsk().conflictCount(), plain.conflicts().size());
         for (int i = 0; i < plain.conflicts().size(); i++) {
-            same("conflict(" + i + ")", real.conflict(i), plain.conflicts().get(i));
+            same("conflict(" + i + ")", real.toAsk().conflict(i), plain.conflicts().get(i));
         }
     }
 
     private void compareExplored() {
-        same("explore()", real.explore(), plain.explore());
-        same("digest()", real.digest(), plain.digest());
+        same("explore()", real.change(x -> x.explore()), plain.explore());
+        same("digest()", real.toAsk().digest(), plain.digest());
         if (!plain.explored()) {
             unusable++;
             return;
@@ -158,27 +160,27 @@ public final class ReferenceTest {
         int count = plain.explored.list.size();
         for (int s = 0; s < count; s++) {
             ReferenceAnalyzer.Situation situation = plain.explored.list.get(s);
-            same("factsOf(" + s + ")", real.factsOf(s), ReferenceAnalyzer.maskOf(situation.facts()));
-            same("triggeredOf(" + s + ")", real.triggeredOf(s), ReferenceAnalyzer.maskOf(situation.triggered()));
+            same("factsOf(" + s + ")", real.toAsk().factsOf(s), ReferenceAnalyzer.maskOf(situation.facts()));
+            same("triggeredOf(" + s + ")", real.toAsk().triggeredOf(s), ReferenceAnalyzer.maskOf(situation.triggered()));
             for (int r = 0; r < plain.rules.size(); r++) {
-                same("after(" + s + ", " + r + ")", real.after(s, r), plain.after(s, r));
+                same("after(" + s + ", " + r + ")", real.toAsk().after(s, r), plain.after(s, r));
             }
         }
         compareProspects();
     }
 
     private void compareProspects() {
-        same("terminates()", of(real.terminates()), of(plain.terminates()));
-        same("endCount()", real.endCount(), plain.ends().size());
+        same("terminates()", of(real.toAsk().terminates()), of(plain.terminates()));
+        same("endCount()", real.toAsk().endCount(), plain.ends().size());
         for (int i = 0; i < plain.ends().size(); i++) {
-            same("end(" + i + ")", real.end(i), plain.ends().get(i));
+            same("end(" + i + ")", real.toAsk().end(i), plain.ends().get(i));
         }
-        same("shortest()", real.shortest(), plain.shortest());
-        same("longest()", real.longest(), plain.longest());
-        same("ways()", real.ways(), plain.ways());
+        same("shortest()", real.toAsk().shortest(), plain.shortest());
+        same("longest()", real.toAsk().longest(), plain.longest());
+        same("ways()", real.toAsk().ways(), plain.ways());
         for (int r = 0; r < plain.rules.size(); r++) {
-            same("isPlayed(" + r + ")", of(real.isPlayed(r)), of(plain.isPlayed(r)));
+            same("isPlayed(" + r + ")", of(real.toAsk().isPlayed(r)), of(plain.isPlayed(r)));
         }
-        same("choice()", real.choice(), plain.choice());
+        same("choice()", real.toAsk().choice(), plain.choice());
     }
 }
