@@ -1,6 +1,7 @@
 /**
  * An analyzer for active rules, which act by themselves when facts change: it plays them,
  * explores all orders in which they can act, and judges them by what they say alone.
+ * The methods bear no comments, because DOC.md promises what each of them does and throws.
  */
 public final class TriggerAnalyzer {
     private static final int FACT_COUNT = 6;
@@ -19,11 +20,9 @@ public final class TriggerAnalyzer {
     private final Exploration exploration = new Exploration(book);
     private int present;
 
-    /** Creates an analyzer without rules; no fact is set. */
     public TriggerAnalyzer() {
     }
 
-    /** Adds a rule without actions; returns its number. */
     public int addRule(int fact, boolean isSet, int must, int mustNot)
             throws IndexOutOfBoundsException, IllegalArgumentException, IllegalStateException {
         needFact(fact);
@@ -36,7 +35,6 @@ public final class TriggerAnalyzer {
         return book.append(changeCode(fact, isSet), must, mustNot);
     }
 
-    /** Appends an action to a rule; returns the number of its actions. */
     public int addAction(int rule, int fact, boolean isSet)
             throws IndexOutOfBoundsException, IllegalStateException {
         Rule acting = ruleAt(rule);
@@ -49,7 +47,6 @@ public final class TriggerAnalyzer {
         return acting.actionCount;
     }
 
-    /** Turns a rule on or off; returns whether it was on before. */
     public boolean turn(int rule, boolean isOn) throws IndexOutOfBoundsException {
         Rule turned = ruleAt(rule);
         boolean wasOn = turned.on;
@@ -61,7 +58,6 @@ public final class TriggerAnalyzer {
         return wasOn;
     }
 
-    /** Ranks a rule above another one; returns whether it was not above it before. */
     public boolean rank(int high, int low) throws IndexOutOfBoundsException, IllegalArgumentException {
         Rule upper = ruleAt(high);
         Rule lower = ruleAt(low);
@@ -74,19 +70,16 @@ public final class TriggerAnalyzer {
         return isNew;
     }
 
-    /** Returns whether rule a is above rule b. */
     public boolean isAbove(int a, int b) throws IndexOutOfBoundsException {
         Rule upper = ruleAt(a);
         Rule lower = ruleAt(b);
         return upper.isOver(lower);
     }
 
-    /** Returns the number of rules. */
     public int ruleCount() {
         return book.size();
     }
 
-    /** Makes just these facts set and no rule triggered; returns the facts that were set before. */
     public int put(int facts) throws IllegalArgumentException {
         needFactSet(facts);
         int before = factsIn(present);
@@ -95,7 +88,6 @@ public final class TriggerAnalyzer {
         return before;
     }
 
-    /** Sets or unsets a fact; returns the rules that are triggered then. */
     public int change(int fact, boolean isSet) throws IndexOutOfBoundsException {
         needFact(fact);
         exploration.forget();
@@ -103,22 +95,18 @@ public final class TriggerAnalyzer {
         return triggeredIn(present);
     }
 
-    /** Returns the facts that are set. */
     public int facts() {
         return factsIn(present);
     }
 
-    /** Returns the rules that are triggered. */
     public int triggered() {
         return triggeredIn(present);
     }
 
-    /** Returns the rules that are ready. */
     public int ready() {
         return book.readyIn(present);
     }
 
-    /** Plays a ready rule; returns whether its condition was true. */
     public boolean play(int rule) throws IndexOutOfBoundsException, IllegalStateException {
         Rule playing = ruleAt(rule);
         if (!playing.isReadyIn(present)) {
@@ -130,7 +118,6 @@ public final class TriggerAnalyzer {
         return acts;
     }
 
-    /** Plays the ready rule with the smallest number, again and again; returns how many were played. */
     public int run(int most) throws IllegalArgumentException {
         if (most < 0 || most > MOST_PLAYS) {
             throw new IllegalArgumentException("most is not 0 to 500");
@@ -146,7 +133,6 @@ public final class TriggerAnalyzer {
         return most;
     }
 
-    /** Explores, if it is not done yet; returns the number of situations, or -1 if there are too many. */
     public int explore() {
         if (!exploration.isDone()) {
             exploration.search(present);
@@ -154,36 +140,30 @@ public final class TriggerAnalyzer {
         return exploration.answer();
     }
 
-    /** Returns the facts of a situation. */
     public int factsOf(int number) throws IllegalStateException, IndexOutOfBoundsException {
         return factsIn(exploredAt(number));
     }
 
-    /** Returns the triggered rules of a situation. */
     public int triggeredOf(int number) throws IllegalStateException, IndexOutOfBoundsException {
         return triggeredIn(exploredAt(number));
     }
 
-    /** Returns the situation to which playing the rule leads, or -1 if it is not ready there. */
     public int after(int number, int rule) throws IllegalStateException, IndexOutOfBoundsException {
         exploredAt(number);
         ruleAt(rule);
         return exploration.nextOf(number, rule);
     }
 
-    /** Returns whether playing comes to an end, whatever rules are chosen. */
     public boolean terminates() throws IllegalStateException {
         needExplored();
         return exploration.prospect.isFinite();
     }
 
-    /** Returns the number of ends. */
     public int endCount() throws IllegalStateException {
         needExplored();
         return exploration.ends.size();
     }
 
-    /** Returns the facts of an end. */
     public int end(int index) throws IllegalStateException, IndexOutOfBoundsException {
         needExplored();
         int facts = exploration.ends.factsAt(index);
@@ -193,47 +173,39 @@ public final class TriggerAnalyzer {
         return facts;
     }
 
-    /** Returns the least number of plays that lead to an end, or -1 if there is no end. */
     public int shortest() throws IllegalStateException {
         needExplored();
         return exploration.ends.firstDepth();
     }
 
-    /** Returns the greatest number of plays that lead to an end, or -1 if playing need not end. */
     public int longest() throws IllegalStateException {
         needExplored();
         return exploration.prospect.mostPlays();
     }
 
-    /** Returns how many different ways to play there are until an end, or -1 if playing need not end. */
     public long ways() throws IllegalStateException {
         needExplored();
         return exploration.prospect.wayCount();
     }
 
-    /** Returns whether the rule is ready in some situation. */
     public boolean isPlayed(int rule) throws IllegalStateException, IndexOutOfBoundsException {
         needExplored();
         return (exploration.everReady() & ruleAt(rule).bit) != 0;
     }
 
-    /** Returns the share of the situations in which at least two rules are ready. */
     public double choice() throws IllegalStateException {
         needExplored();
         return exploration.choiceShare();
     }
 
-    /** Returns the rules that the rule can trigger. */
     public int canTrigger(int rule) throws IndexOutOfBoundsException {
         return book.triggerableBy(ruleAt(rule));
     }
 
-    /** Returns the rules that can trigger themselves, at once or by way of others. */
     public int circular() {
         return judge.inCircles();
     }
 
-    /** Returns whether two different rules commute. */
     public boolean commute(int a, int b) throws IndexOutOfBoundsException, IllegalArgumentException {
         Rule one = ruleAt(a);
         Rule other = ruleAt(b);
@@ -243,12 +215,10 @@ public final class TriggerAnalyzer {
         return judge.areIndependent(one, other);
     }
 
-    /** Returns the number of conflicts. */
     public int conflictCount() {
         return judge.countConflicts();
     }
 
-    /** Returns 10 times the smaller number of a conflict's rules plus the greater one. */
     public int conflict(int index) throws IndexOutOfBoundsException {
         int pair = judge.conflictAt(index);
         if (pair == NONE) {
@@ -257,7 +227,6 @@ public final class TriggerAnalyzer {
         return pair;
     }
 
-    /** Returns a checksum of the rules, the present situation and the exploration's size. */
     public long digest() {
         long sum = book.addedTo(157L);
         sum = sum * 31 + factsIn(present);
@@ -673,7 +642,7 @@ public final class TriggerAnalyzer {
 
         void search(int first) {
             clear();
-            placeOf(first, 0);
+            findOrAdd(first, 0);
             for (int from = 0; from < count && from < MOST_SITUATIONS && !tooMany; from++) {
                 expand(from);
             }
@@ -701,8 +670,7 @@ public final class TriggerAnalyzer {
             }
         }
 
-        /** Returns the situation's number; one that is new gets the next number. */
-        private int placeOf(int situation, int depth) {
+        private int findOrAdd(int situation, int depth) {
             if (situation < 0 || situation >= places.length) {
                 return NONE;
             }
@@ -737,7 +705,7 @@ public final class TriggerAnalyzer {
                 Rule rule = book.ruleOrNull(i);
                 int next = NONE;
                 if (rule != null && (ready & rule.bit) != 0) {
-                    next = placeOf(book.played(situation, rule), depths[from] + 1);
+                    next = findOrAdd(book.played(situation, rule), depths[from] + 1);
                 }
                 keepNext(from * MOST_RULES + i, next);
             }
