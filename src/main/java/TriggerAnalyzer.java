@@ -803,7 +803,7 @@ public final class TriggerAnalyzer {
                 plays[i] = 0;
                 rows[i] = 0;
             }
-            for (int from = 0; from < exploration.size(); from++) {
+            for (int from = 0; from < exploration.size() && from < MOST_SITUATIONS; from++) {
                 for (int rule = 0; rule < MOST_RULES; rule++) {
                     int to = exploration.nextOf(from, rule);
                     if (to >= 0 && to < MOST_SITUATIONS) {
